@@ -295,7 +295,7 @@ public final class NumberProbe {
 
     /** A whole number wrapped to the width of INTS or LONGS. */
     private static long fitted(int kind, long whole) {
-        return kind == INTS ? (int) whole : whole;
+        return kind == LONGS ? whole : (int) whole;
     }
 
     private static long converted(int from, long number, int to) {
@@ -308,7 +308,7 @@ public final class NumberProbe {
             return fitted(to, number);
         }
         long whole = formatOf(from).towardsZero(number);
-        return to == INTS ? Math.max(Integer.MIN_VALUE, Math.min(Integer.MAX_VALUE, whole)) : whole;
+        return to == LONGS ? whole : Math.max(Integer.MIN_VALUE, Math.min(Integer.MAX_VALUE, whole));
     }
 
     private static boolean dividesByZero(int kind, int op, long y) {
@@ -348,7 +348,10 @@ public final class NumberProbe {
         }
     }
 
-    /** INTS are reckoned in longs here: whatever they yield, its low 32 bits are those of the wrapped int. */
+    /**
+     * INTS are reckoned in longs here: whatever they yield, its low 32 bits are those of the wrapped int.
+     * Where y divides, it is not 0: dividesByZero is asked before.
+     */
     private static long wholeResult(int op, long x, long y) {
         switch (op) {
             case PLUS:
@@ -358,9 +361,9 @@ public final class NumberProbe {
             case TIMES:
                 return x * y;
             case BY:
-                return y == 0 ? 0 : x / y;
+                return x / y;
             case REST:
-                return y == 0 ? 0 : x % y;
+                return x % y;
             case LESSER:
                 return Math.min(x, y);
             case GREATER:
@@ -438,9 +441,8 @@ public final class NumberProbe {
         }
 
         long numberOf(long bits) {
-            long magnitude = bits & magnitudeMask;
             boolean negative = (bits & (magnitudeMask + 1)) != 0;
-            return magnitude > infinity ? nan : signed(negative, magnitude);
+            return isNaN(bits) ? nan : signed(negative, magnitude(bits));
         }
 
         boolean isNaN(long x) {

@@ -25,7 +25,8 @@ public final class OperateFloatTest {
         probe.put(kind, 1, y);
         for (int op = 0; op <= 8; op++) {
             if (probe.operate(kind, op, 0, 1, 2) != NumberProbe.DONE || probe.bits(kind, 2) != wanted(kind, op, x, y)) {
-                Bench.due("kind " + kind + ": " + x + " op " + op + " " + y, probe.bits(kind, 2), wanted(kind, op, x, y));
+                String what = "kind " + kind + ": " + x + " op " + op + " " + y;
+                Bench.due(what, probe.bits(kind, 2), wanted(kind, op, x, y));
                 Bench.due("is DONE", probe.operate(kind, op, 0, 1, 2), NumberProbe.DONE);
             }
         }

@@ -39,7 +39,8 @@ public final class PolynomialTest {
         for (int i = 0; i < 6; i++) {
             long want = i == to ? Bench.told(value(row, Bench.single(row[x]))) : row[i];
             if (probe.bits(Bench.SINGLES, i) != want) {
-                Bench.due("SINGLE " + i + " after polynomial(" + x + ", " + to + ")", probe.bits(Bench.SINGLES, i), want);
+                String what = "SINGLE " + i + " after polynomial(" + x + ", " + to + ")";
+                Bench.due(what, probe.bits(Bench.SINGLES, i), want);
             }
         }
     }

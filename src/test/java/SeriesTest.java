@@ -28,7 +28,8 @@ public final class SeriesTest {
         x.put(Bench.DOUBLES, 0, Bench.told(a));
         x.put(Bench.DOUBLES, 1, Bench.told(s));
         Bench.due("series(0, 1, " + n + ", 2)", x.series(0, 1, n, 2), NumberProbe.DONE);
-        Bench.due("the sum of " + n + " terms from " + a + " by " + s, x.bits(Bench.DOUBLES, 2), Bench.told(sum(a, s, n)));
+        String what = "the sum of " + n + " terms from " + a + " by " + s;
+        Bench.due(what, x.bits(Bench.DOUBLES, 2), Bench.told(sum(a, s, n)));
     }
 
     private static double sum(double a, double s, int n) {

@@ -9,9 +9,10 @@ public final class AssignTest {
                 refuses(kind, other);
             }
         }
-        keepsTheDocumentsEdges();
+        theWiderKindDoesIt();
+        theResultBecomesAsWide();
+        zerosDivideFloats();
         answersDivide();
-        assignsToItself();
         refusesNoKind();
         Bench.end();
     }
@@ -154,17 +155,54 @@ public final class AssignTest {
         return a;
     }
 
-    private static void keepsTheDocumentsEdges() {
+    private static void theWiderKindDoesIt() {
         becomes("an INT in SINGLES", Bench.INTS, 16777217, 0, Bench.SINGLES, Bench.told(0.0f), 16777216);
         becomes("an INT in DOUBLES", Bench.INTS, 16777217, 0, Bench.DOUBLES, Bench.told(0.5), 16777217);
-        becomes("an INT in LONGS", Bench.INTS, 5, 0, Bench.LONGS, 0x700000000L, 5);
-        becomes("an INT in LONGS", Bench.INTS, Integer.MIN_VALUE, 3, Bench.LONGS, -1, Integer.MIN_VALUE);
+        becomes("an INT in LONGS", Bench.INTS, 7, 2, Bench.LONGS, 0x100000001L, 7);
+        becomes("a LONG in LONGS", Bench.LONGS, 0x100000000L, 2, Bench.INTS, 2147483647, 0x7FFFFFFF00000000L);
+        becomes("a LONG in SINGLES", Bench.LONGS, 16777217, 1, Bench.SINGLES, Bench.told(0.0f), 16777216);
+        becomes("a LONG in DOUBLES", Bench.LONGS, 9007199254740993L, 0, Bench.DOUBLES, 0, 9007199254740992L);
+        becomes("a SINGLE in SINGLES", Bench.SINGLES, 0, 0, Bench.LONGS, 0x4000004000000001L, 0x5E800001);
+        becomes("a SINGLE in SINGLES", Bench.SINGLES, Bench.told(-1.0f), 0, Bench.INTS, 16777217, 0x4B7FFFFF);
+        becomes("a DOUBLE in DOUBLES", Bench.DOUBLES, Bench.told(-1.0), 0, Bench.INTS, 16777217,
+            Bench.told(16777216.0));
+        // 2^-160 and 2^160 are no SINGLES: there it would be 0.0 or infinite.
+        becomes("a SINGLE in DOUBLES", Bench.SINGLES, Bench.told(0x1p100f), 2, Bench.DOUBLES, Bench.told(0x1p-160),
+            Bench.told(0x1p-60f));
+        becomes("a SINGLE in DOUBLES", Bench.SINGLES, Bench.told(0x1p100f), 3, Bench.DOUBLES, Bench.told(0x1p160),
+            Bench.told(0x1p-60f));
+        becomes("a DOUBLE with a SINGLE", Bench.DOUBLES, Bench.told(1.0), 0, Bench.SINGLES, 1, Bench.told(1.0));
+    }
+
+    private static void theResultBecomesAsWide() {
+        becomes("an INT from LONGS, by its low bits", Bench.INTS, 5, 0, Bench.LONGS, 0x700000000L, 5);
+        becomes("an INT from LONGS, wrapping", Bench.INTS, 2147483647, 0, Bench.LONGS, 1, Integer.MIN_VALUE);
+        becomes("an INT from LONGS, wrapping", Bench.INTS, Integer.MIN_VALUE, 3, Bench.LONGS, -1, Integer.MIN_VALUE);
+        becomes("an INT out of range", Bench.INTS, 2147483647, 0, Bench.DOUBLES, Bench.told(1.0), 2147483647);
+        becomes("an INT out of range", Bench.INTS, Integer.MIN_VALUE, 1, Bench.DOUBLES, Bench.told(1.0),
+            Integer.MIN_VALUE);
+        becomes("an INT towards zero", Bench.INTS, -1, 2, Bench.DOUBLES, Bench.told(1.75), -1);
+        becomes("an INT from a NaN", Bench.INTS, 5, 2, Bench.SINGLES, 0x7FC00000, 0);
+        becomes("a LONG out of range", Bench.LONGS, Long.MAX_VALUE, 2, Bench.SINGLES, Bench.told(2.0f), Long.MAX_VALUE);
+        becomes("a LONG out of range", Bench.LONGS, Long.MIN_VALUE, 2, Bench.DOUBLES, Bench.told(2.0), Long.MIN_VALUE);
+        becomes("a LONG from a NaN", Bench.LONGS, 5, 0, Bench.DOUBLES, 0x7FF8000000000000L, 0);
+        becomes("a SINGLE above the greatest", Bench.SINGLES, 0x7F7FFFFF, 2, Bench.DOUBLES, Bench.told(2.0),
+            0x7F800000);
+        becomes("a SINGLE below the least", Bench.SINGLES, 1, 3, Bench.DOUBLES, Bench.told(-2.0), 0x80000000);
+    }
+
+    private static void zerosDivideFloats() {
         becomes("an INT by 0.0", Bench.INTS, 5, 3, Bench.SINGLES, Bench.told(0.0f), Integer.MAX_VALUE);
+        becomes("an INT by -0.0", Bench.INTS, 5, 3, Bench.DOUBLES, Bench.told(-0.0), Integer.MIN_VALUE);
+        becomes("a LONG by 0.0", Bench.LONGS, -5, 3, Bench.SINGLES, Bench.told(0.0f), Long.MIN_VALUE);
         becomes("a LONG by -0.0", Bench.LONGS, 5, 3, Bench.DOUBLES, Bench.told(-0.0), Long.MIN_VALUE);
         becomes("the INT 0 by 0.0", Bench.INTS, 0, 3, Bench.SINGLES, Bench.told(0.0f), 0);
-        becomes("a SINGLE by the INT 0", Bench.SINGLES, Bench.told(-1f), 3, Bench.INTS, 0, 0xFFFFFFFFFF800000L);
-        becomes("a SINGLE in DOUBLES", Bench.SINGLES, Bench.told(3e38f), 2, Bench.DOUBLES, Bench.told(1e-40),
-            Bench.told((float) (3e38f * 1e-40)));
+        becomes("a SINGLE by the INT 0", Bench.SINGLES, Bench.told(-1f), 3, Bench.INTS, 0, 0xFF800000);
+        becomes("a SINGLE by the LONG 0", Bench.SINGLES, Bench.told(0f), 3, Bench.LONGS, 0, 0x7FC00000);
+        becomes("a DOUBLE by the INT 0", Bench.DOUBLES, Bench.told(1.0), 3, Bench.INTS, 0, 0x7FF0000000000000L);
+        becomes("a DOUBLE by the LONG 0", Bench.DOUBLES, Bench.told(-1.0), 3, Bench.LONGS, 0, 0xFFF0000000000000L);
+        // Its low 32 bits are 0, but it is not.
+        becomes("an INT by the LONG 2^32", Bench.INTS, 5, 3, Bench.LONGS, 0x100000000L, 0);
     }
 
     private static void becomes(String what, int kind, long a, int op, int other, long b, long want) {
@@ -187,16 +225,6 @@ public final class AssignTest {
                 }
             }
         }
-    }
-
-    private static void assignsToItself() {
-        NumberProbe x = Bench.filled();
-        Bench.due("assign(3, 2, 1, 3, 2)", x.assign(3, 2, 1, 3, 2), NumberProbe.DONE);
-        Bench.due("a LONG less itself", x.bits(3, 2), 0);
-        Bench.unchangedBut("assign(3, 2, 1, 3, 2)", x, 3, 2);
-        Bench.due("assign(0, 2, 0, 0, 2)", x.assign(0, 2, 0, 0, 2), NumberProbe.DONE);
-        Bench.due("a SINGLE and itself", x.bits(0, 2), Bench.told(7.0f));
-        Bench.unchangedBut("assign(0, 2, 0, 0, 2)", x, 0, 2);
     }
 
     private static void refuses(int kind, int other) {

@@ -206,6 +206,25 @@ final class Bench {
         }
     }
 
+    /** The OPERATION of x and y of a kind is DONE, and number to is as wanted then. */
+    static void operates(String what, int kind, int op, long x, long y, long want) {
+        NumberProbe probe = new NumberProbe();
+        probe.put(kind, 0, x);
+        probe.put(kind, 1, y);
+        String call = what + ": operate(" + kind + ", " + op + ", 0, 1, 2)";
+        due(call, probe.operate(kind, op, 0, 1, 2), NumberProbe.DONE);
+        due(call + ", then bits(" + kind + ", 2)", probe.bits(kind, 2), want);
+    }
+
+    /** A number of a kind converted to another is DONE, and number to is as wanted then. */
+    static void converts(String what, int kind, long bits, int other, long want) {
+        NumberProbe probe = new NumberProbe();
+        probe.put(kind, 1, bits);
+        String call = what + ": convert(" + kind + ", 1, " + other + ", 4)";
+        due(call, probe.convert(kind, 1, other, 4), NumberProbe.DONE);
+        due(call + ", then bits(" + other + ", 4)", probe.bits(other, 4), want);
+    }
+
     /** A call on an object made by filled() was refused and changed nothing. */
     static void refused(String call, NumberProbe x, long got) {
         due(call, got, NumberProbe.REFUSED);

@@ -1,23 +1,23 @@
 /** Promise 3: boundary, with the BOUNDARY values of the terms. */
 public final class BoundaryTest {
-    private static final float[] SINGLES = {
+    static final float[] SINGLES = {
         0.0f, -0.0f, 1.0f, -1.0f, Float.MIN_VALUE, Math.nextDown(Float.MIN_NORMAL), Float.MIN_NORMAL, Float.MAX_VALUE,
         Float.POSITIVE_INFINITY, Float.NEGATIVE_INFINITY, Float.NaN, Math.nextUp(1.0f), Math.nextDown(1.0f),
         16777217, 9007199254740993L, 0x1p31f, -0x1p31f, 0x1p63f, -0x1p63f, 2147483647, 9223372036854775807L,
     };
 
-    private static final double[] DOUBLES = {
+    static final double[] DOUBLES = {
         0.0, -0.0, 1.0, -1.0, Double.MIN_VALUE, Math.nextDown(Double.MIN_NORMAL), Double.MIN_NORMAL, Double.MAX_VALUE,
         Double.POSITIVE_INFINITY, Double.NEGATIVE_INFINITY, Double.NaN, Math.nextUp(1.0), Math.nextDown(1.0),
         16777217, 9007199254740993L, 0x1p31, -0x1p31, 0x1p63, -0x1p63, 2147483647, 9223372036854775807L,
     };
 
-    private static final int[] INTS = {
+    static final int[] INTS = {
         0, -1, 1, Integer.MIN_VALUE, Integer.MAX_VALUE, 127, 128, -129, 255, 32767, 32768, -32769, 65535, 65536,
         16777217,
     };
 
-    private static final long[] LONGS = {
+    static final long[] LONGS = {
         0, -1, 1, Long.MIN_VALUE, Long.MAX_VALUE, 127, 128, -129, 255, 32767, 32768, -32769, 65535, 65536,
         16777217, 2147483648L, -2147483649L, 4294967296L, 9007199254740993L, 9007199254740991L,
         4611686018427387904L + 512 + 1,

@@ -1,5 +1,10 @@
 /** Promise 9: compare, against Java's own comparisons. */
 public final class CompareTest {
+    private static final int LESS = 1 + 2 + 32 + 128;
+    private static final int EQUAL = 2 + 8 + 16 + 64;
+    private static final int GREATER = 4 + 8 + 32 + 64;
+    private static final int WITH_NAN = 32 + 64 + 128;
+
     public static void main(String[] args) {
         for (int kind = 0; kind < 4; kind++) {
             for (long a : Bench.samples(kind)) {
@@ -9,7 +14,9 @@ public final class CompareTest {
             }
             refuses(kind);
         }
-        keepsEdges();
+        zerosOfBothSignsAreEqual();
+        withANaNNothingHoldsButNot();
+        theEndsOfEveryKind();
         refusesNoKind();
         Bench.end();
     }
@@ -46,17 +53,46 @@ public final class CompareTest {
         return set ? 1 << number : 0;
     }
 
-    private static void keepsEdges() {
-        compares(Bench.SINGLES, Bench.told(-0.0f), Bench.told(0.0f), 2 + 8 + 16 + 64);
-        compares(Bench.DOUBLES, Bench.told(0.0), Bench.told(-0.0), 2 + 8 + 16 + 64);
-        compares(Bench.SINGLES, 0x7FC00000L, 0x7FC00000L, 32 + 64 + 128);
-        compares(Bench.DOUBLES, Bench.told(1.0), 0x7FF8000000000000L, 32 + 64 + 128);
-        compares(Bench.DOUBLES, Bench.told(-2.0), Bench.told(-1.0), 1 + 2 + 32 + 128);
-        compares(Bench.LONGS, Long.MAX_VALUE, Long.MIN_VALUE, 4 + 8 + 32 + 64);
+    private static void zerosOfBothSignsAreEqual() {
+        compares(Bench.SINGLES, 0x80000000, 0x00000000, EQUAL);
+        compares(Bench.SINGLES, 0x00000000, 0x80000000, EQUAL);
+        compares(Bench.DOUBLES, 0x8000000000000000L, 0, EQUAL);
+        compares(Bench.DOUBLES, 0, 0x8000000000000000L, EQUAL);
+        compares(Bench.SINGLES, 0x80000000, 0x00000001, LESS);
+        compares(Bench.SINGLES, 0x00000000, 0x80000001, GREATER);
+        compares(Bench.DOUBLES, 0x8000000000000000L, 1, LESS);
+        compares(Bench.DOUBLES, 0, 0x8000000000000001L, GREATER);
+    }
+
+    private static void withANaNNothingHoldsButNot() {
+        for (long other : new long[] {0, 0x80000000, 0x3F800000, 0xBF800000, 0x7F800000, 0xFF800000, 0x7FC00000}) {
+            compares(Bench.SINGLES, 0x7FC00000, other, WITH_NAN);
+            compares(Bench.SINGLES, other, 0xFFC00001, WITH_NAN);
+        }
+        for (long other : new long[] {0, Long.MIN_VALUE, 0x7FF0000000000000L, 0xFFF0000000000000L, -1L}) {
+            compares(Bench.DOUBLES, 0x7FF8000000000000L, other, WITH_NAN);
+            compares(Bench.DOUBLES, other, 0xFFF0000000000001L, WITH_NAN);
+        }
         NumberProbe x = new NumberProbe();
         x.boundary(Bench.SINGLES, 2, 10);
-        Bench.due("compare(0, 2, 2) of a NaN", x.compare(Bench.SINGLES, 2, 2), 224);
-        Bench.due("compare(0, 1, 1) of a zero", x.compare(Bench.SINGLES, 1, 1), 90);
+        Bench.due("compare(0, 2, 2) of a NaN", x.compare(Bench.SINGLES, 2, 2), WITH_NAN);
+        Bench.due("compare(0, 1, 1) of a zero", x.compare(Bench.SINGLES, 1, 1), EQUAL);
+    }
+
+    private static void theEndsOfEveryKind() {
+        compares(Bench.SINGLES, 0xFF800000, 0xFF7FFFFF, LESS);
+        compares(Bench.SINGLES, 0x7F800000, 0x7F7FFFFF, GREATER);
+        compares(Bench.SINGLES, 0x7F800000, 0x7F800000, EQUAL);
+        compares(Bench.DOUBLES, 0xFFF0000000000000L, 0xFFEFFFFFFFFFFFFFL, LESS);
+        compares(Bench.DOUBLES, 0x7FF0000000000000L, 0xFFF0000000000000L, GREATER);
+        compares(Bench.DOUBLES, Bench.told(-2.0), Bench.told(-1.0), LESS);
+        compares(Bench.INTS, Integer.MIN_VALUE, Integer.MAX_VALUE, LESS);
+        compares(Bench.INTS, Integer.MAX_VALUE, Integer.MIN_VALUE, GREATER);
+        compares(Bench.INTS, -1, -1, EQUAL);
+        compares(Bench.LONGS, Long.MAX_VALUE, Long.MIN_VALUE, GREATER);
+        compares(Bench.LONGS, Long.MIN_VALUE, Long.MAX_VALUE, LESS);
+        // One apart, but alike as DOUBLES.
+        compares(Bench.LONGS, 9007199254740992L, 9007199254740993L, LESS);
     }
 
     private static void refuses(int kind) {

@@ -15,7 +15,6 @@ public final class ConvertTest {
                 refuses(kind, other);
             }
         }
-        keepsTheDocumentsEdges();
         changesOneNumber();
         refusesNoKind();
         Bench.end();
@@ -97,33 +96,6 @@ public final class ConvertTest {
             default:
                 return x;
         }
-    }
-
-    private static void keepsTheDocumentsEdges() {
-        converts(Bench.LONGS, 0x100000005L, Bench.INTS, 5);
-        converts(Bench.LONGS, 0x80000000L, Bench.INTS, Integer.MIN_VALUE);
-        converts(Bench.INTS, -1, Bench.LONGS, -1);
-        converts(Bench.INTS, 16777217, Bench.SINGLES, 0x4B800000L);
-        converts(Bench.INTS, 16777219, Bench.SINGLES, 0x4B800002L);
-        converts(Bench.LONGS, 9007199254740993L, Bench.DOUBLES, 0x4340000000000000L);
-        converts(Bench.LONGS, Long.MIN_VALUE, Bench.DOUBLES, 0xC3E0000000000000L);
-        converts(Bench.LONGS, Long.MIN_VALUE, Bench.SINGLES, 0xFFFFFFFFDF000000L);
-        // Rounded at once: by way of a DOUBLE it would become a tie, and 2^62.
-        converts(Bench.LONGS, 0x4000004000000001L, Bench.SINGLES, 0x5E800001L);
-        converts(Bench.SINGLES, 0x7FC00000L, Bench.INTS, 0);
-        converts(Bench.DOUBLES, 0x7FF8000000000000L, Bench.LONGS, 0);
-        converts(Bench.SINGLES, 0x7F800000L, Bench.INTS, Integer.MAX_VALUE);
-        converts(Bench.SINGLES, 0xFFFFFFFFFF800000L, Bench.LONGS, Long.MIN_VALUE);
-        converts(Bench.DOUBLES, Bench.told(-2.9), Bench.INTS, -2);
-        converts(Bench.DOUBLES, Bench.told(-0.9), Bench.LONGS, 0);
-        converts(Bench.DOUBLES, Bench.told(3e9), Bench.INTS, Integer.MAX_VALUE);
-        converts(Bench.DOUBLES, Bench.told(3e9), Bench.LONGS, 3000000000L);
-        converts(Bench.SINGLES, 1, Bench.DOUBLES, 0x36A0000000000000L);
-        converts(Bench.DOUBLES, 0x47EFFFFFEFFFFFFFL, Bench.SINGLES, 0x7F7FFFFFL);
-        converts(Bench.DOUBLES, 0x47EFFFFFF0000000L, Bench.SINGLES, 0x7F800000L);
-        converts(Bench.DOUBLES, 0x3690000000000000L, Bench.SINGLES, 0);
-        converts(Bench.DOUBLES, 0x3690000000000001L, Bench.SINGLES, 1);
-        converts(Bench.DOUBLES, 0x8000000000000001L, Bench.SINGLES, 0xFFFFFFFF80000000L);
     }
 
     private static void changesOneNumber() {

@@ -6,7 +6,9 @@ public final class NarrowTest {
                 narrows(kind, bits);
             }
         }
-        keepsEdges();
+        narrowsWholeOnes();
+        narrowsLongsByTheirLowBits();
+        narrowsFloatsByWayOfAnInt();
         answersZeroOutOfRange();
         Bench.end();
     }
@@ -37,19 +39,48 @@ public final class NarrowTest {
         Bench.due("bits after narrow", x.bits(kind, 5), bits);
     }
 
-    private static void keepsEdges() {
-        answers(Bench.INTS, 128, 0, -128);
-        answers(Bench.INTS, -129, 0, 127);
-        answers(Bench.INTS, -1, 1, 65535);
-        answers(Bench.INTS, 65536, 1, 0);
-        answers(Bench.INTS, 32768, 2, -32768);
+    private static void narrowsWholeOnes() {
+        long[] wholes = {127, 128, 255, 256, -128, -129, 32767, 32768, -32768, -32769, 65535, 65536, -1, 2147483647};
+        long[] bytes = {127, -128, -1, 0, -128, 127, -1, 0, 0, -1, -1, 0, -1, -1};
+        long[] chars = {127, 128, 255, 256, 65408, 65407, 32767, 32768, 32768, 32767, 65535, 0, 65535, 65535};
+        long[] shorts = {127, 128, 255, 256, -128, -129, 32767, -32768, -32768, 32767, -1, 0, -1, -1};
+        for (int k = 0; k < wholes.length; k++) {
+            for (int kind = Bench.INTS; kind <= Bench.LONGS; kind++) {
+                answers(kind, wholes[k], 0, (int) bytes[k]);
+                answers(kind, wholes[k], 1, (int) chars[k]);
+                answers(kind, wholes[k], 2, (int) shorts[k]);
+                answers(kind, wholes[k], 3, (int) wholes[k]);
+            }
+        }
+    }
+
+    private static void narrowsLongsByTheirLowBits() {
         answers(Bench.LONGS, 0x1FFFFFFFFL, 3, -1);
         answers(Bench.LONGS, Long.MAX_VALUE, 3, -1);
-        // By way of an INT: the nearest one to 1e10 ends in ones.
-        answers(Bench.DOUBLES, Bench.told(1e10), 0, -1);
-        answers(Bench.DOUBLES, Bench.told(1e10), 3, Integer.MAX_VALUE);
-        answers(Bench.SINGLES, Bench.told(-1e10f), 2, 0);
-        answers(Bench.SINGLES, Bench.told(Float.NaN), 3, 0);
+        answers(Bench.LONGS, Long.MIN_VALUE, 3, 0);
+        answers(Bench.LONGS, 0x100000080L, 0, -128);
+        answers(Bench.LONGS, 0x80000000L, 3, Integer.MIN_VALUE);
+    }
+
+    /** By way of an INT: the nearest one to 1e10 ends in ones, that to -1e10 in zeros. */
+    private static void narrowsFloatsByWayOfAnInt() {
+        for (int to = 0; to < 4; to++) {
+            int greatest = to == 1 ? 65535 : to == 3 ? Integer.MAX_VALUE : -1;
+            int least = to == 3 ? Integer.MIN_VALUE : 0;
+            answers(Bench.SINGLES, Bench.told(1e10f), to, greatest);
+            answers(Bench.DOUBLES, Bench.told(1e10), to, greatest);
+            answers(Bench.SINGLES, Bench.told(Float.POSITIVE_INFINITY), to, greatest);
+            answers(Bench.SINGLES, Bench.told(-1e10f), to, least);
+            answers(Bench.DOUBLES, Bench.told(-1e10), to, least);
+            answers(Bench.DOUBLES, Bench.told(Double.NEGATIVE_INFINITY), to, least);
+            answers(Bench.SINGLES, Bench.told(Float.NaN), to, 0);
+            answers(Bench.DOUBLES, Bench.told(Double.NaN), to, 0);
+            answers(Bench.DOUBLES, Bench.told(-0.99), to, 0);
+        }
+        answers(Bench.SINGLES, Bench.told(-1.5f), 0, -1);
+        answers(Bench.SINGLES, Bench.told(-1.5f), 1, 65535);
+        answers(Bench.DOUBLES, Bench.told(128.9), 0, -128);
+        answers(Bench.DOUBLES, Bench.told(32768.5), 2, -32768);
     }
 
     private static void answersZeroOutOfRange() {

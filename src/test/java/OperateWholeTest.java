@@ -10,7 +10,6 @@ public final class OperateWholeTest {
             refuses(kind);
             dividesByZero(kind);
         }
-        shiftsByLowBits();
         refusesNoKind();
         Bench.end();
     }
@@ -24,105 +23,11 @@ public final class OperateWholeTest {
                 continue;
             }
             Bench.due("operate(" + kind + ", " + op + ", ..)", probe.operate(kind, op, 4, 5, 1), NumberProbe.DONE);
-            long want = kind == Bench.INTS ? whole(op, (int) x, (int) y) : whole(op, x, y);
+            long want = kind == Bench.INTS ? Reckoner.reckoned(op, (int) x, (int) y) : Reckoner.reckoned(op, x, y);
             if (probe.bits(kind, 1) != want) {
                 Bench.due("kind " + kind + ": " + x + " op " + op + " " + y, probe.bits(kind, 1), want);
             }
         }
-    }
-
-    private static int whole(int op, int x, int y) {
-        switch (op) {
-            case 0:
-                return x + y;
-            case 1:
-                return x - y;
-            case 2:
-                return x * y;
-            case 3:
-                return x / y;
-            case 4:
-                return x % y;
-            case 5:
-                return x < y ? x : y;
-            case 6:
-                return x > y ? x : y;
-            case 7:
-                return -x;
-            case 8:
-                return x < 0 ? -x : x;
-            case 9:
-                return x << y;
-            case 10:
-                return x >> y;
-            case 11:
-                return x >>> y;
-            case 12:
-                return x & y;
-            case 13:
-                return x | y;
-            default:
-                return x ^ y;
-        }
-    }
-
-    private static long whole(int op, long x, long y) {
-        switch (op) {
-            case 0:
-                return x + y;
-            case 1:
-                return x - y;
-            case 2:
-                return x * y;
-            case 3:
-                return x / y;
-            case 4:
-                return x % y;
-            case 5:
-                return x < y ? x : y;
-            case 6:
-                return x > y ? x : y;
-            case 7:
-                return -x;
-            case 8:
-                return x < 0 ? -x : x;
-            case 9:
-                return x << y;
-            case 10:
-                return x >> y;
-            case 11:
-                return x >>> y;
-            case 12:
-                return x & y;
-            case 13:
-                return x | y;
-            default:
-                return x ^ y;
-        }
-    }
-
-    private static void shiftsByLowBits() {
-        becomes(Bench.INTS, 9, 1, 33, 2);
-        becomes(Bench.INTS, 9, 1, -1, Integer.MIN_VALUE);
-        becomes(Bench.INTS, 10, -8, 34, -2);
-        becomes(Bench.INTS, 11, -1, 63, 1);
-        becomes(Bench.LONGS, 9, 1, 65, 2);
-        becomes(Bench.LONGS, 9, 1, 33, 0x200000000L);
-        becomes(Bench.LONGS, 10, -8, 0x100000001L, -4);
-        becomes(Bench.LONGS, 11, -1, -1, 1);
-        becomes(Bench.INTS, 3, Integer.MIN_VALUE, -1, Integer.MIN_VALUE);
-        becomes(Bench.LONGS, 3, Long.MIN_VALUE, -1, Long.MIN_VALUE);
-        becomes(Bench.LONGS, 4, Long.MIN_VALUE, -1, 0);
-        becomes(Bench.INTS, 3, -7, 2, -3);
-        becomes(Bench.INTS, 4, -7, 2, -1);
-    }
-
-    private static void becomes(int kind, int op, long x, long y, long want) {
-        NumberProbe probe = new NumberProbe();
-        probe.put(kind, 0, x);
-        probe.put(kind, 1, y);
-        Bench.due("operate(" + kind + ", " + op + ", 0, 1, 0)", probe.operate(kind, op, 0, 1, 0), NumberProbe.DONE);
-        Bench.due("kind " + kind + ": " + x + " op " + op + " " + y, probe.bits(kind, 0), want);
     }
 
     private static void dividesByZero(int kind) {

@@ -9,7 +9,10 @@ public final class OrderTest {
             }
             refuses(kind);
         }
-        keepsEdges();
+        minusZeroIsBeforeZero();
+        aNaNIsBehindAllOthers();
+        allNaNsAreAlike();
+        theEndsOfEveryKind();
         refusesNoKind();
         Bench.end();
     }
@@ -35,15 +38,46 @@ public final class OrderTest {
         }
     }
 
-    private static void keepsEdges() {
-        orders(Bench.SINGLES, Bench.told(-0.0f), Bench.told(0.0f), -1);
-        orders(Bench.DOUBLES, Bench.told(0.0), Bench.told(-0.0), 1);
-        orders(Bench.SINGLES, 0xFFC00001L, 0x7F800001L, 0);
-        orders(Bench.DOUBLES, 0xFFF8000000000000L, 0x7FF0000000000000L, 1);
-        orders(Bench.DOUBLES, 0xFFF0000000000000L, 0x7FF8000000000000L, -1);
+    private static void minusZeroIsBeforeZero() {
+        orders(Bench.SINGLES, 0x80000000, 0x00000000, -1);
+        orders(Bench.SINGLES, 0x00000000, 0x80000000, 1);
+        orders(Bench.SINGLES, 0x80000000, 0x80000000, 0);
+        orders(Bench.SINGLES, 0x80000001, 0x80000000, -1);
+        orders(Bench.DOUBLES, Long.MIN_VALUE, 0, -1);
+        orders(Bench.DOUBLES, 0, Long.MIN_VALUE, 1);
+        orders(Bench.DOUBLES, Long.MIN_VALUE, Long.MIN_VALUE, 0);
+        orders(Bench.DOUBLES, 0x8000000000000001L, Long.MIN_VALUE, -1);
+    }
+
+    private static void aNaNIsBehindAllOthers() {
+        for (long other : new long[] {0, 0x80000000, 0x7F7FFFFF, 0x7F800000, 0xFF800000}) {
+            orders(Bench.SINGLES, 0xFFC00000, other, 1);
+            orders(Bench.SINGLES, other, 0x7FC00000, -1);
+        }
+        long[] doubles = {0, Long.MIN_VALUE, 0x7FEFFFFFFFFFFFFFL, 0x7FF0000000000000L, 0xFFF0000000000000L};
+        for (long other : doubles) {
+            orders(Bench.DOUBLES, 0xFFF8000000000000L, other, 1);
+            orders(Bench.DOUBLES, other, 0x7FF8000000000000L, -1);
+        }
+    }
+
+    private static void allNaNsAreAlike() {
+        orders(Bench.SINGLES, 0xFFC00001, 0x7F800001, 0);
+        orders(Bench.SINGLES, 0x7FC00000, 0xFFFFFFFF, 0);
+        orders(Bench.DOUBLES, 0xFFF8000000000001L, 0x7FF0000000000001L, 0);
+        orders(Bench.DOUBLES, 0x7FF8000000000000L, -1L, 0);
+    }
+
+    private static void theEndsOfEveryKind() {
+        orders(Bench.SINGLES, 0xFF800000, 0xFF7FFFFF, -1);
+        orders(Bench.DOUBLES, 0x7FF0000000000000L, 0x7FEFFFFFFFFFFFFFL, 1);
         orders(Bench.DOUBLES, Bench.told(-2.0), Bench.told(-1.0), -1);
-        orders(Bench.LONGS, Long.MAX_VALUE, Long.MIN_VALUE, 1);
         orders(Bench.INTS, Integer.MIN_VALUE, Integer.MAX_VALUE, -1);
+        orders(Bench.INTS, Integer.MAX_VALUE, Integer.MIN_VALUE, 1);
+        orders(Bench.INTS, Integer.MIN_VALUE, Integer.MIN_VALUE, 0);
+        orders(Bench.LONGS, Long.MAX_VALUE, Long.MIN_VALUE, 1);
+        orders(Bench.LONGS, Long.MIN_VALUE, Long.MAX_VALUE, -1);
+        orders(Bench.LONGS, 0x100000000L, 0, 1);
     }
 
     private static void refuses(int kind) {

@@ -1,3 +1,5 @@
+import java.util.Arrays;
+
 /** Promise 13: polynomial, against the same one of Java's own floats. */
 public final class PolynomialTest {
     private static final int SCATTERED = 20000;
@@ -12,6 +14,9 @@ public final class PolynomialTest {
         for (int k = 0; k < SCATTERED; k++) {
             solves(row(k), k % 6, k / 6 % 6);
         }
+        takesTheNumbersAsTheyAre();
+        endsInInfinitiesAndNaN();
+        keepsTheSignOfZero();
         changesOneNumber();
         refuses();
         Bench.end();
@@ -52,6 +57,48 @@ public final class PolynomialTest {
             value = value + Bench.single(row[k]);
         }
         return value;
+    }
+
+    /** Number to is one of the six, and may be x: what it was before counts. */
+    private static void takesTheNumbersAsTheyAre() {
+        for (int x = 0; x < 6; x++) {
+            for (int to = 0; to < 6; to++) {
+                float want = 0;
+                for (int k = 5; k >= 0; k--) {
+                    want = want * (x + 1) + (k + 1);
+                }
+                becomes(new float[] {1, 2, 3, 4, 5, 6}, x, to, Bench.told(want));
+            }
+        }
+        becomes(new float[] {7, 0, 0, 0, 0, 0}, 5, 5, Bench.told(7.0f));
+        becomes(new float[] {0, 0, 0, 0, 0, 2}, 5, 5, Bench.told(64.0f));
+    }
+
+    private static void endsInInfinitiesAndNaN() {
+        float infinite = Float.POSITIVE_INFINITY;
+        becomes(new float[] {0, 0, 0, 0, 0, Float.MAX_VALUE}, 5, 1, 0x7F800000);
+        becomes(new float[] {0, 0, 0, 0, 0, -Float.MAX_VALUE}, 5, 1, 0x7F800000);
+        becomes(new float[] {-infinite, 1, 1, 1, 1, 1}, 0, 1, 0xFF800000);
+        becomes(new float[] {-infinite, 1, 1, 1, 1, infinite}, 1, 0, 0x7FC00000);
+        becomes(new float[] {0, 1, 1, 1, 1, infinite}, 0, 0, 0x7FC00000);
+        becomes(new float[] {1, 1, 1, Float.NaN, 1, 1}, 0, 0, 0x7FC00000);
+    }
+
+    private static void keepsTheSignOfZero() {
+        becomes(new float[] {-0.0f, 0, 0, 0, 0, 0}, 1, 2, 0x00000000);
+        becomes(new float[] {-0.0f, -0.0f, -0.0f, -0.0f, -0.0f, -0.0f}, 1, 2, 0x00000000);
+        becomes(new float[] {-0.0f, 1, 0, 0, 0, -0.0f}, 1, 2, Bench.told(1.0f));
+        becomes(new float[] {-0.0f, -0.0f, -0.0f, -0.0f, -1, 0x1p-60f}, 5, 2, 0x80000000);
+    }
+
+    private static void becomes(float[] row, int x, int to, long want) {
+        NumberProbe probe = new NumberProbe();
+        for (int i = 0; i < 6; i++) {
+            probe.put(Bench.SINGLES, i, Bench.told(row[i]));
+        }
+        String call = "polynomial(" + x + ", " + to + ") of " + Arrays.toString(row);
+        Bench.due(call, probe.polynomial(x, to), NumberProbe.DONE);
+        Bench.due(call + ", then bits(0, " + to + ")", probe.bits(Bench.SINGLES, to), want);
     }
 
     private static void changesOneNumber() {

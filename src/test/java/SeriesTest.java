@@ -17,7 +17,6 @@ public final class SeriesTest {
                 sums(Bench.twofold(samples[i]), Bench.twofold(samples[k]), (i + 3 * k) % 41);
             }
         }
-        keepsEdges();
         choosesNumbers();
         refuses();
         Bench.end();
@@ -43,25 +42,6 @@ public final class SeriesTest {
             sum += term;
         }
         return sum;
-    }
-
-    private static void keepsEdges() {
-        NumberProbe x = Bench.filled();
-        x.boundary(Bench.DOUBLES, 0, 1);
-        x.series(0, 0, 1, 2);
-        Bench.due("the sum of -0.0 alone", x.bits(Bench.DOUBLES, 2), Bench.told(-0.0));
-        x.series(0, 0, 40, 2);
-        Bench.due("the sum of 40 times -0.0", x.bits(Bench.DOUBLES, 2), Bench.told(-0.0));
-        x.series(0, 0, 0, 2);
-        Bench.due("the sum without terms", x.bits(Bench.DOUBLES, 2), 0);
-        x.boundary(Bench.DOUBLES, 1, 10);
-        x.series(1, 0, 0, 2);
-        Bench.due("the sum without terms from a NaN", x.bits(Bench.DOUBLES, 2), 0);
-        x.put(Bench.DOUBLES, 3, Bench.told(2.0));
-        x.series(3, 1, 1, 2);
-        Bench.due("the sum of one term by a NaN", x.bits(Bench.DOUBLES, 2), Bench.told(2.0));
-        x.series(3, 1, 2, 2);
-        Bench.due("the sum of two terms by a NaN", x.bits(Bench.DOUBLES, 2), 0x7FF8000000000000L);
     }
 
     private static void choosesNumbers() {

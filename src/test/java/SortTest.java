@@ -13,7 +13,11 @@ public final class SortTest {
             }
         }
         knowsEveryPowerOfTwo();
-        keepsEdges();
+        tellsANaNAndNothingElse();
+        tellsInfinities();
+        tellsZeros();
+        tellsThoseWithFewerBits();
+        tellsWholeNumbers();
         answersZeroForWholeNumbers();
         refuses();
         Bench.end();
@@ -61,17 +65,56 @@ public final class SortTest {
         }
     }
 
-    private static void keepsEdges() {
-        sorts(Bench.SINGLES, 0xFFC00000L, 1);
-        sorts(Bench.DOUBLES, 0xFFF0000000000000L, 2 + 32);
+    private static void tellsANaNAndNothingElse() {
+        for (long bits : new long[] {0x7FC00000, 0xFFC00000, 0x7F800001, 0xFFFFFFFF}) {
+            sorts(Bench.SINGLES, bits, 1);
+        }
+        for (long bits : new long[] {0x7FF8000000000000L, 0xFFF8000000000000L, 0x7FF0000000000001L, -1L}) {
+            sorts(Bench.DOUBLES, bits, 1);
+        }
+    }
+
+    private static void tellsInfinities() {
+        sorts(Bench.SINGLES, 0x7F800000, 2);
+        sorts(Bench.SINGLES, 0xFF800000, 2 + 32);
+        sorts(Bench.SINGLES, 0x7F7FFFFF, 4 + 64);
         sorts(Bench.DOUBLES, 0x7FF0000000000000L, 2);
-        sorts(Bench.DOUBLES, Bench.told(-0.0), 4 + 8 + 32 + 64);
+        sorts(Bench.DOUBLES, 0xFFF0000000000000L, 2 + 32);
+        sorts(Bench.DOUBLES, 0xFFEFFFFFFFFFFFFFL, 4 + 32 + 64);
+    }
+
+    private static void tellsZeros() {
+        sorts(Bench.SINGLES, 0x00000000, 4 + 8 + 64);
+        sorts(Bench.SINGLES, 0x80000000, 4 + 8 + 32 + 64);
+        sorts(Bench.DOUBLES, 0, 4 + 8 + 64);
+        sorts(Bench.DOUBLES, 0x8000000000000000L, 4 + 8 + 32 + 64);
+    }
+
+    private static void tellsThoseWithFewerBits() {
+        sorts(Bench.SINGLES, 0x00000001, 4 + 16 + 128);
+        sorts(Bench.SINGLES, 0x80000001, 4 + 16 + 32);
+        sorts(Bench.SINGLES, 0x00000003, 4 + 16);
+        sorts(Bench.SINGLES, 0x00400000, 4 + 16 + 128);
+        sorts(Bench.SINGLES, 0x007FFFFF, 4 + 16);
+        sorts(Bench.SINGLES, 0x00800000, 4 + 128);
+        sorts(Bench.DOUBLES, 0x0000000000000001L, 4 + 16 + 128);
+        sorts(Bench.DOUBLES, 0x800FFFFFFFFFFFFFL, 4 + 16 + 32);
+        sorts(Bench.DOUBLES, 0x0010000000000000L, 4 + 128);
+    }
+
+    private static void tellsWholeNumbers() {
+        sorts(Bench.SINGLES, Bench.told(0.5f), 4 + 128);
+        sorts(Bench.SINGLES, 0x3F7FFFFF, 4);
+        sorts(Bench.SINGLES, 0x3F800001, 4);
+        sorts(Bench.SINGLES, Bench.told(-3.0f), 4 + 32 + 64);
+        sorts(Bench.SINGLES, Bench.told(8388607.5f), 4);
+        sorts(Bench.SINGLES, Bench.told(8388608f), 4 + 64 + 128);
+        sorts(Bench.SINGLES, Bench.told(8388609f), 4 + 64);
         sorts(Bench.DOUBLES, Bench.told(3.0), 4 + 64);
         sorts(Bench.DOUBLES, Bench.told(-2.5), 4 + 32);
-        sorts(Bench.DOUBLES, Bench.told(4503599627370496.5), 4 + 64 + 128);
         sorts(Bench.DOUBLES, Bench.told(4503599627370495.5), 4);
-        sorts(Bench.SINGLES, Bench.told(8388607.5f), 4);
-        sorts(Bench.SINGLES, Bench.told(8388609f), 4 + 64);
+        sorts(Bench.DOUBLES, Bench.told(4503599627370496.0), 4 + 64 + 128);
+        sorts(Bench.DOUBLES, Bench.told(4503599627370497.0), 4 + 64);
     }
 
     private static void answersZeroForWholeNumbers() {

@@ -1,4 +1,4 @@
-/** Promises 6 and 14: assign, against Java's own compound assignments, the two kinds being the same ones too. */
+/** Promise 6: assign, against Java's own compound assignments, the two kinds being the same one too. */
 public final class AssignTest {
     private static final int EVERY = 3;
 

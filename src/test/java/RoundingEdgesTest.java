@@ -12,6 +12,7 @@ public final class RoundingEdgesTest {
         singlesEquallyNearGoToTheEvenOne();
         doublesEquallyNearGoToTheEvenOne();
         convertedOnesEquallyNearGoToTheEvenOne();
+        digitsFarBehindDecide();
         singlesAboveTheGreatestAreInfinite();
         doublesAboveTheGreatestAreInfinite();
         convertedOnesAboveTheGreatestAreInfinite();
@@ -81,6 +82,24 @@ public final class RoundingEdgesTest {
         single("2^24 + 2 + 1", PLUS, 0x4B800001, 0x3F800000, 0x4B800002);
         single("1.5 times a last digit of 1", TIMES, 0x3F800001, 0x3FC00000, 0x3FC00002);
         single("1.5 times a last digit of 3", TIMES, 0x3F800003, 0x3FC00000, 0x3FC00004);
+        single("a last digit of 3 times 1.5", TIMES, 0x3FC00000, 0x3F800003, 0x3FC00004);
+        single("1 - half the last place below it", MINUS, 0x3F800000, 0x33000000, 0x3F800000);
+        single("1 + 2^-12 by itself, 2^-24 beyond", TIMES, 0x3F800800, 0x3F800800, 0x3F801000);
+    }
+
+    /** What would be equally near, but for digits far behind the last place: they decide. */
+    private static void digitsFarBehindDecide() {
+        single("1 + half its last place and 2^-47", PLUS, 0x3F800000, 0x33800001, 0x3F800001);
+        single("1 - half the last place below it and 2^-48", MINUS, 0x3F800000, 0x33000001, 0x3F7FFFFF);
+        single("half a last place and 2^-34 beyond", TIMES, 0x3F800802, 0x3F800800, 0x3F801003);
+        single("the same, turned round", TIMES, 0x3F800800, 0x3F800802, 0x3F801003);
+        twofold("1 + half its last place and 2^-105", PLUS, 0x3FF0000000000000L, 0x3CA0000000000001L,
+            0x3FF0000000000001L);
+        twofold("1 - half the last place below it and 2^-106", MINUS, 0x3FF0000000000000L, 0x3C90000000000001L,
+            0x3FEFFFFFFFFFFFFFL);
+        twofold("half a last place and 2^-77 beyond", TIMES, 0x3FF0000002000002L, 0x3FF0000004000000L,
+            0x3FF0000006000003L);
+        twofold("the same, turned round", TIMES, 0x3FF0000004000000L, 0x3FF0000002000002L, 0x3FF0000006000003L);
     }
 
     private static void doublesEquallyNearGoToTheEvenOne() {
@@ -96,6 +115,11 @@ public final class RoundingEdgesTest {
         twofold("2^53 + 2 + 1", PLUS, 0x4340000000000001L, 0x3FF0000000000000L, 0x4340000000000002L);
         twofold("1.5 times a last digit of 1", TIMES, 0x3FF0000000000001L, 0x3FF8000000000000L, 0x3FF8000000000002L);
         twofold("1.5 times a last digit of 3", TIMES, 0x3FF0000000000003L, 0x3FF8000000000000L, 0x3FF8000000000004L);
+        twofold("a last digit of 3 times 1.5", TIMES, 0x3FF8000000000000L, 0x3FF0000000000003L, 0x3FF8000000000004L);
+        twofold("1 - half the last place below it", MINUS, 0x3FF0000000000000L, 0x3C90000000000000L,
+            0x3FF0000000000000L);
+        twofold("1 + 2^-27 by 1 + 2^-26, 2^-53 beyond", TIMES, 0x3FF0000002000000L, 0x3FF0000004000000L,
+            0x3FF0000006000000L);
     }
 
     private static void convertedOnesEquallyNearGoToTheEvenOne() {

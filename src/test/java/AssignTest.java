@@ -220,6 +220,7 @@ public final class AssignTest {
                 x.put(other, 4, 0);
                 String call = "assign(" + kind + ", 1, 3, " + other + ", 4)";
                 Bench.due(call, x.assign(kind, 1, 3, other, 4), NumberProbe.DIVIDE);
+                Bench.due(call + " with a out of range", x.assign(kind, 6, 3, other, 4), NumberProbe.REFUSED);
                 for (int each = 0; each < 4; each++) {
                     Bench.unchangedBut(call, x, each, each == other ? 4 : -1);
                 }

@@ -31,6 +31,8 @@ public final class FaceTest {
         hasTheMethods();
         hasTheFields();
         hasOneConstructor();
+        hidesTheClassesInside();
+        namesNoPrivateMethodLikeAPublicOne();
         Bench.end();
     }
 
@@ -39,6 +41,8 @@ public final class FaceTest {
         for (Method method : NumberProbe.class.getDeclaredMethods()) {
             if (!Modifier.isPrivate(method.getModifiers())) {
                 found.add(described(method));
+                isTrue(method + " is public, of an object", method.getModifiers() == Modifier.PUBLIC);
+                isTrue(method + " declares no exception", method.getExceptionTypes().length == 0);
             }
         }
         isTrue("the methods are those of the document: " + found, found.equals(new TreeSet<>(Arrays.asList(METHODS))));
@@ -57,6 +61,8 @@ public final class FaceTest {
         for (Field field : NumberProbe.class.getDeclaredFields()) {
             if (!Modifier.isPrivate(field.getModifiers())) {
                 found.add(field.getType().getName() + " " + field.getName());
+                isTrue(field + " is a constant",
+                    field.getModifiers() == (Modifier.PUBLIC | Modifier.STATIC | Modifier.FINAL));
             }
         }
         TreeSet<String> named = new TreeSet<>(Arrays.asList("int DONE", "int REFUSED", "int DIVIDE"));
@@ -68,6 +74,26 @@ public final class FaceTest {
         isTrue("there is one constructor", constructors.length == 1);
         isTrue("it is public, without parameters",
             constructors[0].getParameterCount() == 0 && Modifier.isPublic(constructors[0].getModifiers()));
+    }
+
+    private static void hidesTheClassesInside() {
+        for (Class<?> inside : NumberProbe.class.getDeclaredClasses()) {
+            int modifiers = inside.getModifiers();
+            boolean open = Modifier.isPublic(modifiers) || Modifier.isProtected(modifiers);
+            isTrue(inside + " is private or package-visible", !open);
+            isTrue(inside + " is static", Modifier.isStatic(modifiers));
+        }
+    }
+
+    private static void namesNoPrivateMethodLikeAPublicOne() {
+        TreeSet<String> publicNames = new TreeSet<>();
+        for (Method method : NumberProbe.class.getMethods()) {
+            publicNames.add(method.getName());
+        }
+        for (Method method : NumberProbe.class.getDeclaredMethods()) {
+            boolean hidden = Modifier.isPrivate(method.getModifiers());
+            isTrue(method + " has a name of its own", !hidden || !publicNames.contains(method.getName()));
+        }
     }
 
     private static void isTrue(String what, boolean holds) {
